@@ -2,6 +2,7 @@
 public final class OracleTests {
   private static int asked = 0, wrong = 0;
   private static final int[] seen = new int[5];
+  private static final int[][] smallests = new int[5][5];
   private static final StringBuilder run = new StringBuilder();
 
   private static void same(String call, int got, int want) {
@@ -23,8 +24,10 @@ public final class OracleTests {
       oneRun(new Towns(r), r % 8 == 7 ? 290 : 60);
       if (wrong > 20) break;
     }
+    for (int r = from; r < from + 4 * runs && wrong <= 20; r++) smallTown(new Towns(-1 - r));
     System.out.println("OracleTests: " + asked + " answers, BAD " + seen[1] + ", NO " + seen[2]
         + ", FULL " + seen[3] + ", NONE " + seen[4]);
+    System.out.println("of 4 corners 1 to 4: " + java.util.Arrays.toString(smallests[4]));
     System.out.println((asked - wrong) + " passed, " + wrong + " failed");
     if (wrong > 0) System.exit(1);
   }
@@ -51,6 +54,20 @@ public final class OracleTests {
         same("back()", x.back(), o.back());
         ask(x, o, towns);
       }
+    }
+  }
+
+  /** Towns so small that the oracle's search comes to its end: one object asks several. */
+  private static void smallTown(Towns towns) {
+    WalkersSay x = new WalkersSay();
+    Oracle o = new Oracle();
+    run.setLength(0);
+    for (int t = 0; t < 4; t++) {
+      writeAll(x, o, towns, towns.small());
+      same("lay()", x.lay(), o.lay());
+      same("pairs(-1)", x.pairs(-1), o.pairs(-1));
+      same("smallest()", x.smallest(), o.smallest());
+      if (x.smallest() > 0) smallests[Math.min(4, x.corners())][x.smallest()]++;
     }
   }
 

@@ -114,6 +114,23 @@ final class Towns {
     return text.toString();
   }
 
+  /** Few tokens, so that few ends are told. */
+  String small() {
+    StringBuilder text = new StringBuilder();
+    int walks = 1 + below(3);
+    for (int w = 0; w < walks; w++) {
+      text.append((char) ('a' + below(2)));
+      int taken = 0, tokens = below(4);
+      for (int i = 0; i < tokens; i++) {
+        String token = below(2) == 0 ? String.valueOf(below(4)) : token(taken);
+        if (token.length() == 1) taken++;
+        text.append(token);
+      }
+      text.append(';');
+    }
+    return text.toString();
+  }
+
   private String spoilt(String text) {
     StringBuilder s = new StringBuilder(text);
     int times = 1 + below(2);
