@@ -239,10 +239,8 @@ public final class WalkersSay {
         if (!isThing(thing) || n < 0 || n > TOLD_LIMIT || what < 0 || what > 1) {
             return BAD;
         }
-        for (int i = 0; i < n; i++) {
-            if (turningIn(v, i) > TURNING_LIMIT) {
-                return BAD;
-            }
+        if (!isTurnings(v, n)) {
+            return BAD;
         }
         int answer = settle();
         if (answer != STANDS) {
@@ -302,6 +300,16 @@ public final class WalkersSay {
 
     private static boolean isThing(int thing) {
         return thing >= 0 && thing < THING_LIMIT;
+    }
+
+    /** A bit above the n turnings belongs to none of them, so such a v tells no n turnings. */
+    private static boolean isTurnings(long v, int n) {
+        for (int i = 0; i < n; i++) {
+            if (turningIn(v, i) > TURNING_LIMIT) {
+                return false;
+            }
+        }
+        return v >>> 4 * n == 0;
     }
 
     private static int turningIn(long v, int fromTheLowest) {

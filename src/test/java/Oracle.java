@@ -515,7 +515,7 @@ final class Oracle {
 
   int told(int thing, int n, long v, int what) {
     if (thing < 0 || thing > 7 || n < 0 || n > 12 || what < 0 || what > 1) return BAD;
-    for (int i = 0; i < n; i++) if ((v >>> 4 * i & 15) > 5) return BAD;
+    for (int i = 0; i < 16; i++) if ((v >>> 4 * i & 15) > (i < n ? 5 : 0)) return BAD;
     if (standing() != 0) return standing();
     if (!facts.firsts.containsKey(thing)) return NONE;
     int at = numbered.names[facts.firsts.get(thing)], gone = 0;

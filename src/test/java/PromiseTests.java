@@ -470,10 +470,28 @@ public final class PromiseTests {
     due("nineteen, the last", far.way(0, 19, 18), 1);
   }
 
+  private static void toldBitsBeyond() {
+    due("none of none", new WalkersSay().told(0, 0, 1, 0), BAD);
+    for (int n = 0; n <= 12; n++) {
+      WalkersSay x = laid("a13#34;b;");
+      long ones = 0x111111111111L & (1L << 4 * n) - 1;
+      due(n + " turnings fill their bits", x.told(0, n, ones, 0) >= 0 ? 1 : 0, 1);
+      for (int bit = 4 * n; bit < 64; bit++) {
+        due(n + " turnings and bit " + bit, x.told(0, n, ones | 1L << bit, 0), BAD);
+        due(n + " turnings and bit " + bit + ", where", x.told(0, n, ones | 1L << bit, 1), BAD);
+      }
+    }
+    WalkersSay x = laid("a13#34;b;");
+    due("v below 0", x.told(0, 1, -15, 1), BAD);
+    due("beyond: BAD ahead of NONE", x.told(2, 1, 0x11, 0), BAD);
+    due("beyond: BAD ahead of NO", laid("a!0;").told(0, 1, 0x11, 0), BAD);
+    due("beyond: BAD ahead of FULL", laid("a" + times("1", 20) + ";").told(0, 1, 0x11, 0), BAD);
+  }
+
   private static void told() {
     WalkersSay x = laid("a13#34;b;");
-    due("none", x.told(0, 0, 99, 0), 0);
-    due("none, where", x.told(0, 0, 99, 1), 0);
+    due("none", x.told(0, 0, 0, 0), 0);
+    due("none, where", x.told(0, 0, 0, 1), 0);
     due("1", x.told(0, 1, 0x1, 0), 1);
     due("1, where", x.told(0, 1, 0x1, 1), 1);
     due("1 3", x.told(0, 2, 0x13, 1), 2);
@@ -486,7 +504,7 @@ public final class PromiseTests {
     due("0: nobody took it", x.told(0, 1, 0x0, 0), 0);
     due("2 1: stays where it is", x.told(0, 2, 0x21, 1), 0);
     due("twelve", x.told(0, 12, 0x100000000000L, 0), 12);
-    due("bits above are none of it", x.told(0, 1, -15, 1), 1);
+    toldBitsBeyond();
     due("the thing is not told", x.told(2, 1, 1, 0), NONE);
     due("b", x.told(1, 0, 0, 1), 4);
     due("thirteen", x.told(0, 13, 0, 0), BAD);
