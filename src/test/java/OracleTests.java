@@ -121,7 +121,7 @@ public final class OracleTests {
       for (int n = 0; n < 4; n++) {
         int turnings = towns.below(15) - 1, what = towns.below(9) == 0 ? 2 : towns.below(2);
         long v = towns.below(10) == 0 ? towns.anyLong() << 12 : 0;
-        for (int i = 0; i < turnings; i++) v = v << 4 | (towns.below(40) == 0 ? 6 : 1 + towns.below(6) % 5);
+        for (int i = 0; i < turnings; i++) v = v << 4 | (towns.below(40) == 0 ? 6 : towns.below(12) % 6);
         same("told(" + thing + ", " + turnings + ", " + v + ", " + what + ")",
             x.told(thing, turnings, v, what), o.told(thing, turnings, v, what));
       }
